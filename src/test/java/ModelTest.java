@@ -433,8 +433,18 @@ public final class ModelTest {
         return r;
     }
 
+    /** What to add to register s to come just within or beyond its bounds; from far below AT only a wrap would. */
+    private static int offsetToEdge(Random dice, Model m, int s, int n) {
+        if (s < 0 || s > 7) {
+            return 0;
+        }
+        Word w = m.registers[s];
+        int[] edges = {w.from() - 1, w.from(), w.to() - n, w.to() - n + 1, w.to() - 1, w.to()};
+        return edges[dice.nextInt(edges.length)] - w.at();
+    }
+
     /** What to add to register s so that it often points to a cell that holds a pointer. */
-    private static int offsetOfPointer(Random dice, Model m, int s) {
+    private static int offsetOfPointer(Random dice, Model m, int s, int n) {
         if (s >= 0 && s < 8 && dice.nextInt(3) != 0) {
             Word w = m.registers[s];
             for (int i = w.from(); i < w.to(); i++) {
@@ -443,7 +453,7 @@ public final class ModelTest {
                 }
             }
         }
-        return offset(dice);
+        return dice.nextBoolean() ? offsetToEdge(dice, m, s, n) : offset(dice);
     }
 
     private static void same(int got, int want, String name, int... arguments) {
@@ -458,9 +468,9 @@ public final class ModelTest {
         int r = register(dice, m, false);
         int s = register(dice, m, true);
         int t = register(dice, m, true);
-        int d = offset(dice);
-        int e = offsetOfPointer(dice, m, t);
         int n = length(dice);
+        int d = dice.nextInt(4) == 0 ? offsetToEdge(dice, m, s, n) : offset(dice);
+        int e = offsetOfPointer(dice, m, t, n);
         switch (dice.nextInt(25)) {
             case 0, 1, 2 -> same(x.give(r, n), m.give(r, n), "give", r, n);
             case 3, 4 -> same(x.back(s), m.back(s), "back", s);
